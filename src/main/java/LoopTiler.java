@@ -349,7 +349,7 @@ public final class LoopTiler {
             return NOWHERE;
         }
         fusion.ready(nests[0], nests[1], scratch);
-        return fusion.bound ? Steps.part(fusion.least, which) : 0;
+        return fusion.bound ? Numbers.part(fusion.least, which) : 0;
     }
 
     public int fused(int i, int j, int k) {
@@ -477,8 +477,13 @@ public final class LoopTiler {
 
     // ---- classes inside
 
-    /** Rows of numbers, sorted in place so that no second row is needed. */
-    private static final class Rows {
+    /** Rows of numbers sorted, and three numbers as one. */
+    private static final class Numbers {
+        static final int OFFSET = 2048;
+        static final int BITS = 12;
+        static final int MASK = 4095;
+
+        /** Sorts in place, so that no second row is needed. */
         static void sort(long[] row, int size) {
             for (int root = size / 2 - 1; root >= 0; root--) {
                 sink(row, root, size);
@@ -507,14 +512,8 @@ public final class LoopTiler {
             }
             row[hole] = sinking;
         }
-    }
 
-    /** Three numbers (-2048 to 2047 each) as one, that is greater if they are, place by place. */
-    private static final class Steps {
-        static final int OFFSET = 2048;
-        static final int BITS = 12;
-        static final int MASK = 4095;
-
+        /** Three numbers (-2048 to 2047 each) as one, that is greater if they are, place by place. */
         static long joined(int i, int j, int k) {
             return ((long) (i + OFFSET) << 2 * BITS) | ((long) (j + OFFSET) << BITS) | (long) (k + OFFSET);
         }
@@ -969,7 +968,7 @@ public final class LoopTiler {
 
         /** From a turn of another nest to one of this one. */
         long stepsFrom(Nest other, int p, int q) {
-            return Steps.joined(values[3 * q] - other.values[3 * p],
+            return Numbers.joined(values[3 * q] - other.values[3 * p],
                 values[3 * q + 1] - other.values[3 * p + 1], values[3 * q + 2] - other.values[3 * p + 2]);
         }
     }
@@ -997,10 +996,10 @@ public final class LoopTiler {
                     touched++;
                 }
             }
-            Rows.sort(scratch, touched);
+            Numbers.sort(scratch, touched);
             size = 0;
             goThrough(nest, scratch, touched);
-            Rows.sort(row, size);
+            Numbers.sort(row, size);
             known = true;
         }
 
@@ -1048,7 +1047,7 @@ public final class LoopTiler {
         }
 
         int apart(int i, int variable) {
-            return Steps.part(row[i] >> 20, variable);
+            return Numbers.part(row[i] >> 20, variable);
         }
 
         int ofKind(int kind) {
@@ -1314,7 +1313,7 @@ public final class LoopTiler {
                 }
                 scratch[turn] = keyJoined(turn) * 512 + turn;
             }
-            Rows.sort(scratch, nest.turns);
+            Numbers.sort(scratch, nest.turns);
             for (int i = 0; i < nest.turns; i++) {
                 order[i] = (int) (scratch[i] & 511);
             }
@@ -1459,7 +1458,7 @@ public final class LoopTiler {
                 return;
             }
             int size = put(second, 1, put(first, 0, 0, scratch), scratch);
-            Rows.sort(scratch, size);
+            Numbers.sort(scratch, size);
             bound = false;
             forgetElement();
             for (int s = 0; s < size; s++) {
@@ -1518,7 +1517,7 @@ public final class LoopTiler {
         }
 
         boolean isKept() {
-            return !bound || Steps.joined(shift[0], shift[1], shift[2]) >= least;
+            return !bound || Numbers.joined(shift[0], shift[1], shift[2]) >= least;
         }
 
         void run(Nest first, Nest second, Memory memory) {
@@ -1536,7 +1535,7 @@ public final class LoopTiler {
         }
 
         boolean comesFirst(Nest first, int p, Nest second, int q) {
-            return first.stepsFrom(second, q, p) <= Steps.joined(shift[0], shift[1], shift[2]);
+            return first.stepsFrom(second, q, p) <= Numbers.joined(shift[0], shift[1], shift[2]);
         }
     }
 
@@ -1564,7 +1563,7 @@ public final class LoopTiler {
                     touched++;
                 }
             }
-            Rows.sort(scratch, touched);
+            Numbers.sort(scratch, touched);
             number(scratch, touched);
             known = true;
             knownWidth = width;

@@ -133,6 +133,7 @@ public final class FaultsTest {
         fault(4, "^nest i from 0 to 99,j from -9*i-9*i to -9*i-9*i:a[i]=");
         fault(4, "^nest i from 0 to 99,j from 9*i+9*i to 9*i+9*i,k from 1 to 0:a[i]=");
         fault(4, "^nest i from 99 to 99,j from 9*i to 9*i,k from j+99+10 to j+99+10:a[i]=");
+        fault(4, "^nest i from 99 to 99,j from -9*i to -9*i,k from j-99-10 to j-99-10:a[i]=");
         fault(1, "nest i from 0 to 99,j from 0 to 5:a[i]=;^");
         fault(2, "nest i from 0 to 99,j from 0 to 5:a[i]=a[^k]");
     }
@@ -151,6 +152,7 @@ public final class FaultsTest {
         good(1, 500, "nest i from 0 to 99,j from 0 to 4:a[i]=");
         good(1, 500, "nest i from -99-99-99-99 to 99+4:a[i]=");
         good(1, 1, "nest i from 99 to 99,j from 9*i to 9*i,k from j+99+9 to j+99+9:a[i]=");
+        good(1, 1, "nest i from 99 to 99,j from -9*i to -9*i,k from j-99-9 to j-99-9:a[i]=");
         // a variable takes no value where its loop is empty
         good(1, 0, "nest i from 99 to 99,j from 9*i+9*i to 9*i:a[i]=");
         good(1, 0, "nest i from 0 to 99,j from 9*i+9*i+1 to 9*i+9*i,k from 1 to 1:a[i]=");

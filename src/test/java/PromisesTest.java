@@ -98,6 +98,8 @@ public final class PromisesTest {
         due("3: low", x.text(LOW), NONE);
         due("3: empty", x.text(0), -3);
         Sheet.feed(x, GRID);
+        due("3: a word ends where the text does", x.text(3), -3);
+        Sheet.feed(x, GRID);
         due("3: too long", x.text(81), NONE);
         due("3: below 0", x.text(-1), NONE);
         due("3: the tape stays", x.count(5), 60);
@@ -623,6 +625,12 @@ public final class PromisesTest {
         due("28: what", x.best(0, 0, 1, 2), NONE);
         due("28: what", x.best(0, 0, 1, -1), NONE);
         due("28: nest", x.best(1, 0, 1, 0), NONE);
+        x = Sheet.told("nest i from 0 to 15,j from 0 to 30:a[j]=");
+        x.cache(1, 1);
+        x.cache(2, 16);
+        x.cache(3, 1);
+        due("28: the greatest size", x.best(0, 0, 2, 0), 16);
+        due("28: each element once", x.best(0, 0, 2, 1), 31);
         x = Sheet.told(SLANT);
         due("28: of several the least, legal or not", x.best(0, 0, 2, 0), 1);
     }
