@@ -24,6 +24,8 @@ public final class CacheBoundsTest {
         shiftAsked();
         shiftOfTouches();
         shiftFar();
+        shiftOfMostTouches();
+        shiftOfAnotherText();
         fused();
         fusedAtItsLeast();
         bothRefused();
@@ -140,6 +142,36 @@ public final class CacheBoundsTest {
         due("P23: -99 is more than enough", x.fused(-99, -99, 0), 1);
     }
 
+    /** 500 turns of 20 touches each; but the last of a turn none binds the nests. */
+    private static void shiftOfMostTouches() {
+        String reads = "b[0]b[0]b[0]b[0]";
+        String most = "nest i from 1 to 5,j from 1 to 10,k from 1 to 10:A[0]=#,A[0]=#,A[0]=#,d[0]=#";
+        LoopTiler x = Sheet.told(most.replace("#", reads).replace('A', 'a') + ";" + most.replace("#", reads).replace('A', 'c'));
+        int[] due = {4, 9, 9};
+        for (int which = 0; which < 3; which++) {
+            due("P22: the most touches", x.shift(which), due[which]);
+        }
+        due("P23: the most touches", x.fused(4, 9, 9), 1);
+        due("P23: the most touches", x.fused(4, 9, 8), 0);
+        // 4 lines of a set each: a or c, b, d
+        x.cache(3, 4);
+        due("P24: the most touches", x.both(0, 0, 0, 0), 4);
+        due("P24: the most touches", x.both(0, 0, 0, 1), 4);
+        due("P26: the most touches", x.misses(1, 2), 10000);
+    }
+
+    private static void shiftOfAnotherText() {
+        LoopTiler x = Sheet.told("nest i from 0 to 3:a[0]=;nest i from 0 to 3:a[0]=");
+        due("P22: of a text of more turns", x.shift(0), 3);
+        Sheet.tell(x, "nest i from 5 to 5:a[0]=;nest i from 0 to 0:a[0]=");
+        due("P22: of a text", x.shift(0), 5);
+        Sheet.tell(x, "nest i from 0 to 0:a[0]=;nest i from 7 to 7:a[0]=");
+        due("P22: of another text", x.shift(0), -7);
+        Sheet.tell(x, "nest i from 5 to 5:a[0]=;nest i from 0 to 0:b[0]=");
+        due("P22: all 0, where they were not", x.shift(0), 0);
+        due("P23: any is legal, where it was not", x.fused(-99, 0, 0), 1);
+    }
+
     private static void fused() {
         for (int depth = 1; depth <= 3; depth++) {
             Supplier<LoopTiler> made = changed(depth);
@@ -176,6 +208,9 @@ public final class CacheBoundsTest {
         due("T3: one less", x.fused(1, -6, 0), 0);
         due("T3: the first number counts first", x.fused(0, 99, 0), 0);
         due("T3: the first number counts first", x.fused(2, -99, 0), 1);
+        LoopTiler y = Sheet.told("nest i from 0 to 1,j from 7-9*i-3*i to 7-9*i-3*i:a[1-i]=;nest i from 0 to 0,j from 0 to 0:b[0]=a[0]a[1]");
+        due("T3: the elements the other way round", y.shift(0), 1);
+        due("T3: the elements the other way round", y.shift(1), -5);
         x.swap(0, 0, 1);
         x.turn(1, 0);
         x.tile(0, 0, 2, 4);
@@ -222,6 +257,17 @@ public final class CacheBoundsTest {
         x.turn(1, 0);
         x.tile(0, 0, 1, 2);
         due("T3: changes, tiles are of no matter", x.both(-1, 0, 0, 0), 4);
+        x = ofOneAddress("nest i from 0 to 1:a[0]=;nest i from 0 to 1:b[i]=");
+        due("T3: b0, b1, a, a", x.both(-2, 0, 0, 0), 3);
+        due("T3: a, a, b0, b1", x.both(2, 0, 0, 0), 3);
+        String plane = "nest i from 0 to 0,j from 0 to 0,k from 0 to 1:";
+        x = ofOneAddress(plane + "a[0]=;" + plane + "b[0]=");
+        due("T3: a b a b", x.both(0, 0, 0, 0), 4);
+        due("T3: by the third number: a, a b, b", x.both(0, 0, 1, 0), 2);
+        due("T3: by the third number: b, a b, a", x.both(0, 0, -1, 0), 4);
+        due("T3: by the second number first: a, a, b, b", x.both(0, 1, -1, 0), 2);
+        due("T3: by the second number first: b, b, a, a", x.both(0, -1, 1, 0), 2);
+        due("T3: by the first number first: a, a, b, b", x.both(1, -99, -1, 0), 2);
         x = ofOneAddress("nest i from 0 to 0,j from 0 to 1:a[j]=;nest i from 0 to 0,j from 0 to 1:a[1-j]=");
         due("P24: a0, a1 a1, a0", x.both(0, 1, 0, 0), 3);
         due("P24: as told: a0 a1 a1 a0", x.both(0, 0, 0, 1), 3);
@@ -302,6 +348,15 @@ public final class CacheBoundsTest {
         due("T3: downwards", cold("nest i from -5 to -4:a[i]=", 16, 4), 2);
         due("T3: downwards", cold("nest i from -1 to 0:a[i]=", 16, 4), 2);
         due("T3: downwards", cold("nest i from -3 to 3:a[i]=", 16, 4), 2);
+        // 4096 is 1365 times 3 and 1, so b begins within a line, c at the end of one
+        int[] threes = {1, 2, 2, 1};
+        for (int a = 0; a < 4; a++) {
+            due("T3: lines of 3, array " + a, cold("nest i from 0 to 2:" + (char) ('a' + a) + "[i]=", 16, 3), threes[a]);
+        }
+        due("T3: lines of 3, b", cold("nest i from -1 to 1:b[i]=", 16, 3), 1);
+        due("T3: lines of 3, c", cold("nest i from 1 to 3:c[i]=", 16, 3), 1);
+        due("T3: all variables", cold("nest i from 0 to 1,j from 0 to 2,k from 0 to 3:a[i][k]=", 16, 1), 8);
+        due("T3: all variables", cold("nest i from 0 to 1,j from 0 to 2,k from 0 to 3:a[j][9*i+k]=", 16, 1), 24);
         LoopTiler x = Sheet.told("nest i from 0 to 0:a[-1]=a[3]a[-1]a[3]");
         x.cache(1, 1);
         x.cache(3, 1);
@@ -336,6 +391,16 @@ public final class CacheBoundsTest {
         x.cache(2, 16);
         x.cache(3, 8);
         due("T3: SETS 16, WAYS 8", x.misses(0, 0), 8);
+        x = Sheet.told("nest i from 0 to 1,j from 0 to 99+28:a[j]=");
+        x.cache(1, 1);
+        x.cache(2, 16);
+        x.cache(3, 8);
+        due("T3: SETS 16, WAYS 8: all 128 are there", x.misses(0, 0), 128);
+        x = Sheet.told("nest i from 0 to 1,j from 0 to 99+29:a[j]=");
+        x.cache(1, 1);
+        x.cache(2, 16);
+        x.cache(3, 8);
+        due("T3: one more: the nine of its set put one another out", x.misses(0, 0), 120 + 18);
         x = Sheet.told("nest i from 0 to 0:a[0]=a[0]a[1]a[0]a[2]");
         x.cache(1, 1);
         x.cache(2, 1);
@@ -404,6 +469,8 @@ public final class CacheBoundsTest {
         x.tile(0, 0, 2, 16);
         due("T3: one tile", x.misses(0, 4), 1);
         due("T3: one tile", x.misses(0, 5), 4);
+        x.tile(0, 0, 2, 1);
+        due("T3: the greatest footprint, less than it was", x.misses(0, 5), 1);
         x.tile(0, 1, 1, 2);
         due("T3: unlike ahead of the tile", x.misses(0, 4), 4);
         due("T3: 0 1, 2 3, 0 1, 2 3", x.misses(0, 3), 8);

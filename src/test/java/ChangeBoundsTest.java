@@ -31,8 +31,10 @@ public final class ChangeBoundsTest {
 
     public static void main(String[] args) {
         pairs();
+        mostPairs();
         distance();
         farDistance();
+        onePair();
         direction();
         swapAndTurn();
         skew();
@@ -42,6 +44,7 @@ public final class ChangeBoundsTest {
         change();
         keys();
         keysDownwards();
+        keysFar();
         legal();
         broken();
         carried();
@@ -107,6 +110,26 @@ public final class ChangeBoundsTest {
         }
     }
 
+    /** 500 turns of 20 touches; nearly each read is written ahead of it and behind it, in other turns. */
+    private static void mostPairs() {
+        StringBuilder text = new StringBuilder("nest i from 0 to 4,j from 0 to 99:");
+        for (char a = 'a'; a <= 'd'; a++) {
+            text.append(a == 'a' ? "" : ",").append("a[j]=a[j+1]a[j+1]a[j+1]a[j+1]".replace('a', a));
+        }
+        LoopTiler x = Sheet.told(text.toString());
+        due("P5: the most pairs, kind 0", x.pairs(0, 0), 4 * 99 * 16);
+        due("P5: the most pairs, kind 1", x.pairs(0, 1), 5 * 99 * 16);
+        due("P5: the most pairs, kind 2", x.pairs(0, 2), 4 * 100 * 4);
+        due("P5: the most pairs", x.pairs(0, 3), 15856);
+        due("P6: of the most pairs, 0 1", x.distance(0, 0, 3), 5 * 99 * 16);
+        due("P6: of the most pairs, 1 -1", x.distance(0, 1, 3), 4 * 99 * 16);
+        due("P6: of the most pairs, 1 0", x.distance(0, 2, 3), 4 * 100 * 4);
+        due("P6: of the most pairs", x.distance(0, NONE, 0), 3);
+        x.turn(0, 1);
+        due("P15: of the most pairs, 0 1", x.broken(0, 0), 5 * 99 * 16);
+        due("P16: of the most pairs, 1 -1, 1 0", x.carried(0, 0), 4 * 99 * 16 + 4 * 100 * 4);
+    }
+
     private static void distance() {
         LoopTiler x = Sheet.told("nest i from 0 to 2,j from 0 to 2:a[i][j]=a[i-1][j+1]a[i][j-1]a[i-1][j]");
         int[][] rising = {{0, 1, 0, 6}, {1, -1, 0, 4}, {1, 0, 0, 6}};
@@ -148,6 +171,27 @@ public final class ChangeBoundsTest {
             due("P6: behind it", x.distance(0, 111, 0), NOWHERE);
             due("P7: far is above 0 as near is", x.direction(0, 1, sign, 0, 1), 222);
             due("P7: one direction", x.direction(0, 0, 0, 0, 0), 1);
+        }
+    }
+
+    private static void onePair() {
+        LoopTiler x = Sheet.told("nest i from 0 to 1:a[i]=a[i-1]");
+        due("P5: one pair", x.pairs(0, 3), 1);
+        due("P6: one distance", x.distance(0, NONE, 3), 1);
+        due("P6: one pair has it", x.distance(0, 0, 3), 1);
+        due("P7: one direction", x.direction(0, 0, 0, 0, 0), 1);
+        due("P7: one pair has it", x.direction(0, 1, 0, 0, 1), 1);
+        due("P16: one is carried", x.carried(0, 0), 1);
+        due("P17: one level", x.band(0, 0), 1);
+        x.turn(0, 0);
+        due("P14: one is broken", x.legal(0), 0);
+        due("P15: one is broken", x.broken(0, 0), 1);
+        due("P15: one is broken", x.broken(0, 1), 1);
+        due("P17: none", x.band(0, 0), 0);
+        x = Sheet.told("nest i from 0 to 3:a[i]=a[i-3]a[i-2]a[i-1]");
+        int[] due = {3, 2, 1};
+        for (int i = 0; i < 3; i++) {
+            due("P6: pairs of " + (i + 1), x.distance(0, i, 3), due[i]);
         }
     }
 
@@ -454,6 +498,31 @@ public final class ChangeBoundsTest {
         due("T2: turned", x.tileOf(0, 3, 1), NONE);
     }
 
+    /** Y0 is j less k, 0 or 1; Y1 goes from some -18000 to some 18000: what is far apart in it is behind Y0. */
+    private static void keysFar() {
+        LoopTiler x = Sheet.told("nest i from -99-11 to 99+12,j from 9*i to 9*i,k from 9*i-1 to 9*i:a[0]=");
+        due("T2: turns", x.nest(0, 1), 444);
+        x.swap(0, 0, 1);
+        x.skew(0, 0, 2, -1);
+        x.skew(0, 1, 2, 9);
+        x.skew(0, 1, 0, 9);
+        x.skew(0, 1, 2, 9);
+        int[] rows = {0, 1, -1, 1, 9, 9, 0, 0, 1};
+        for (int i = 0; i < 9; i++) {
+            due("T2: the change", x.change(0, i / 3, i % 3, false), rows[i]);
+        }
+        int[][] tiles = {{0, 0, 1}, {1, 1, 1}, {1, 1, 2}, {1, 2, 3}, {1, 2, 16}, {2, 1, 16}, {0, 1, 1}, {0, 2, 1}, {0, 3, 1}};
+        for (int[] tile : tiles) {
+            x.tile(0, tile[0], tile[1], tile[2]);
+            for (int i : new int[] {0, 1, 110, 220, 221}) {
+                due("T2: far, Y0 is 0, " + tile[0] + tile[1], x.at(0, i, 0), i - 110);
+                due("T2: far, Y0 is 0, " + tile[0] + tile[1], x.at(0, i, 2), 9 * (i - 110));
+                due("T2: far, Y0 is 1, " + tile[0] + tile[1], x.at(0, 222 + i, 0), i - 110);
+                due("T2: far, Y0 is 1, " + tile[0] + tile[1], x.at(0, 222 + i, 2), 9 * (i - 110) - 1);
+            }
+        }
+    }
+
     private static void legal() {
         for (int depth = 1; depth <= 3; depth++) {
             LoopTiler x = Sheet.told(DEEP[depth - 1]);
@@ -668,6 +737,11 @@ public final class ChangeBoundsTest {
         due("P19: turns", x.visits(0, 2), 18);
         x.tile(0, 0, 3, 2);
         due("P19: the tile is of no matter", x.visits(0, 0), 20);
+        x = Sheet.told("nest i from 5 to 5,j from 0 to 2,k from 0 to 1:a[i]=");
+        due("P19: one number at level 0", x.visits(0, 0), 1);
+        due("P19: one number at level 0", x.visits(0, 1), 3);
+        x = Sheet.told("nest i from 0 to 2,j from i to i,k from 0 to 1:a[i]=");
+        due("P19: one number at level 1", x.visits(0, 1), 3);
     }
 
     private static void at() {

@@ -90,6 +90,20 @@ public final class FaultsTest {
     }
 
     private static void goingOn() {
+        fault(1, "^nesta i from 0 to 3:a[i]=");
+        fault(1, "^nestz i from 0 to 3:a[i]=");
+        fault(1, "^best i from 0 to 3:a[i]=");
+        fault(1, "^nesu i from 0 to 3:a[i]=");
+        fault(1, "^nes i from 0 to 3:a[i]=");
+        fault(1, "nest i ^grom 0 to 3:a[i]=");
+        fault(1, "nest i ^fron 0 to 3:a[i]=");
+        fault(1, "nest i from 0 ^uo 3:a[i]=");
+        fault(1, "nest i from 0 ^tp 3:a[i]=");
+        fault(1, "nest i from 0 ^t 3:a[i]=");
+        fault(1, "nest ^h from 0 to 3:a[i]=");
+        fault(1, "nest ^l from 0 to 3:a[i]=");
+        fault(1, LOOP + "a[^h]=");
+        fault(1, LOOP + "a[^l]=");
         fault(1, "nest ^:a[0]=");
         fault(1, "nest ^,i from 0 to 3:a[i]=");
         fault(1, "nest ^nest i from 0 to 3:a[i]=");
@@ -225,6 +239,8 @@ public final class FaultsTest {
         fault(4, "^nest i from 99 to 99,j from -9*i-99-10 to -9*i-99-10,k from 1 to 0:a[i]=");
         fault(4, "^nest i from 0 to 99,j from 9*i+99+10 to 99+99+9*i:a[i]=");
         fault(4, "^nest i from -99 to 0,j from 9*i-99-10 to 9*i-99-10,k from i to -99:a[i]=");
+        // 505 turns, and many pairs of i, j that have less than none
+        fault(4, "^nest i from 0 to 2,j from 0 to 99+1,k from 0 to 3*i-3:a[i]=");
         // another fault of the text counts alone, wherever it stands
         fault(3, "nest i from 0 to 99,j from 0 to 5:a[i]=;" + LOOP + "a[i]=^;");
         fault(4, "^nest i from 0 to 22,j from 0 to 22:a[i]=");
@@ -255,6 +271,7 @@ public final class FaultsTest {
         good(1, 500, "nest i from -99-99-99-99 to 99+4:a[i]=");
         good(1, 1, "nest i from 99 to 99,j from 9*i to 9*i,k from j+99+9 to j+99+9:a[i]=");
         good(1, 1, "nest i from 99 to 99,j from -9*i to -9*i,k from j-99-9 to j-99-9:a[i]=");
+        good(1, 500, "nest i from 0 to 2,j from 0 to 99,k from 0 to 3*i-3:a[i]=");
         // a variable takes no value where its loop is empty
         good(1, 0, "nest i from 99 to 99,j from 9*i+9*i to 9*i:a[i]=");
         good(1, 0, "nest i from 0 to 99,j from 9*i+9*i+1 to 9*i+9*i,k from 1 to 1:a[i]=");

@@ -24,6 +24,7 @@ public final class TextBoundsTest {
         textOfAPart();
         textWithAFault();
         textAnew();
+        textBehindAFault();
         textOfSixHundred();
         nestAsked();
         loops();
@@ -225,6 +226,36 @@ public final class TextBoundsTest {
         due("P3: two again", Sheet.tell(x, LINE + ";" + PLANE), 2);
         due("P3: the second one's change is as at first", x.change(1, 1, 1, false), 1);
         due("P3: what was found of the old one is not of the new one", x.pairs(1, 3), 18);
+    }
+
+    /** Nothing of a text with a fault, or of one that was, is found of the next one. */
+    private static void textBehindAFault() {
+        LoopTiler x = new LoopTiler();
+        due("P3: the second nest is too large", Sheet.tell(x, LINE + ";nest i from 0 to 99,j from 0 to 5:a[i]="), -2 - (8 * 31 + 4));
+        due("P3: one nest behind it", Sheet.tell(x, LINE), 1);
+        due("P3: a fault in the second nest", Sheet.tell(x, LINE + ";" + PLANE + "@"), -2 - (8 * (31 + PLANE.length()) + 1));
+        due("P3: two nests behind it", Sheet.tell(x, PLANE + ";" + LINE), 2);
+        int[][] due = {{18, 6}, {3, 2}};
+        for (int nest = 0; nest < 2; nest++) {
+            due("P5: of a text", x.pairs(nest, 3), due[nest][0]);
+            due("P26: of a text", x.misses(nest, 1), due[nest][1]);
+        }
+        due("P3: the other way round", Sheet.tell(x, LINE + ";" + PLANE), 2);
+        for (int nest = 0; nest < 2; nest++) {
+            due("P5: of the next text", x.pairs(nest, 3), due[1 - nest][0]);
+            due("P26: of the next text", x.misses(nest, 1), due[1 - nest][1]);
+        }
+        String large = "nest i from 0 to 9:a[0]=b[0]c[0],b[1]=d[0],c[0]=";
+        Sheet.tell(x, large + ";" + large);
+        Sheet.tell(x, large + ";" + large);
+        due("P3: small behind large ones", Sheet.tell(x, "nest i from 5 to 5:a[0]=;nest i from 0 to 0:b[0]="), 2);
+        for (int nest = 0; nest < 2; nest++) {
+            due("P5: small behind large ones", x.pairs(nest, 3), 0);
+            due("P26: small behind large ones", x.misses(nest, 1), 1);
+            due("P26: small behind large ones", x.misses(nest, 0), 1);
+            due("P4: small behind large ones", x.nest(nest, 3), 1);
+        }
+        due("P22: small behind large ones", x.shift(0), 0);
     }
 
     private static void textOfSixHundred() {
