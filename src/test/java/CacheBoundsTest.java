@@ -474,6 +474,8 @@ public final class CacheBoundsTest {
         x.tile(0, 1, 1, 2);
         due("T3: unlike ahead of the tile", x.misses(0, 4), 4);
         due("T3: 0 1, 2 3, 0 1, 2 3", x.misses(0, 3), 8);
+        x.tile(0, 1, 1, 16);
+        due("T3: alike by SIZE, unlike ahead of it", x.misses(0, 4), 2);
         x.tile(0, 0, 1, 2);
         due("T3: alike up to the n by SIZE, unlike behind", x.misses(0, 4), 1);
         x.tile(0, 0, 1, 1);
