@@ -170,6 +170,8 @@ public final class CacheBoundsTest {
         Sheet.tell(x, "nest i from 5 to 5:a[0]=;nest i from 0 to 0:b[0]=");
         due("P22: all 0, where they were not", x.shift(0), 0);
         due("P23: any is legal, where it was not", x.fused(-99, 0, 0), 1);
+        Sheet.tell(x, "nest i from 5 to 5:b[0]=;nest i from 0 to 0:a[0]=");
+        due("P22: a touch that the old text had is none", x.shift(0), 0);
     }
 
     private static void fused() {

@@ -112,22 +112,22 @@ public final class ChangeBoundsTest {
 
     /** 500 turns of 20 touches; nearly each read is written ahead of it and behind it, in other turns. */
     private static void mostPairs() {
-        StringBuilder text = new StringBuilder("nest i from 0 to 4,j from 0 to 99:");
+        StringBuilder text = new StringBuilder("nest i from 0 to 19,j from 0 to 24:");
         for (char a = 'a'; a <= 'd'; a++) {
             text.append(a == 'a' ? "" : ",").append("a[j]=a[j+1]a[j+1]a[j+1]a[j+1]".replace('a', a));
         }
         LoopTiler x = Sheet.told(text.toString());
-        due("P5: the most pairs, kind 0", x.pairs(0, 0), 4 * 99 * 16);
-        due("P5: the most pairs, kind 1", x.pairs(0, 1), 5 * 99 * 16);
-        due("P5: the most pairs, kind 2", x.pairs(0, 2), 4 * 100 * 4);
-        due("P5: the most pairs", x.pairs(0, 3), 15856);
-        due("P6: of the most pairs, 0 1", x.distance(0, 0, 3), 5 * 99 * 16);
-        due("P6: of the most pairs, 1 -1", x.distance(0, 1, 3), 4 * 99 * 16);
-        due("P6: of the most pairs, 1 0", x.distance(0, 2, 3), 4 * 100 * 4);
+        due("P5: the most pairs, kind 0", x.pairs(0, 0), 19 * 24 * 16);
+        due("P5: the most pairs, kind 1", x.pairs(0, 1), 20 * 24 * 16);
+        due("P5: the most pairs, kind 2", x.pairs(0, 2), 19 * 25 * 4);
+        due("P5: the most pairs", x.pairs(0, 3), 16876);
+        due("P6: of the most pairs, 0 1", x.distance(0, 0, 3), 20 * 24 * 16);
+        due("P6: of the most pairs, 1 -1", x.distance(0, 1, 3), 19 * 24 * 16);
+        due("P6: of the most pairs, 1 0", x.distance(0, 2, 3), 19 * 25 * 4);
         due("P6: of the most pairs", x.distance(0, NONE, 0), 3);
         x.turn(0, 1);
-        due("P15: of the most pairs, 0 1", x.broken(0, 0), 5 * 99 * 16);
-        due("P16: of the most pairs, 1 -1, 1 0", x.carried(0, 0), 4 * 99 * 16 + 4 * 100 * 4);
+        due("P15: of the most pairs, 0 1", x.broken(0, 0), 20 * 24 * 16);
+        due("P16: of the most pairs, 1 -1, 1 0", x.carried(0, 0), 19 * 24 * 16 + 19 * 25 * 4);
     }
 
     private static void distance() {
