@@ -834,24 +834,36 @@ public final class LoopTiler {
         /** Parts the tape into tokens, up to the first byte that begins none. */
         void part(int[] tape, int length) {
             size = 0;
-            int place = 0;
-            while (place < length && place < tape.length) {
-                int b = tape[place];
-                if (b == ' ' || b == 10) {
-                    place++;
-                } else if (isLetter(b)) {
-                    place = putWord(tape, place, length);
-                } else if (isDigit(b)) {
-                    place = putNumber(tape, place, length);
-                } else if (SINGLE.indexOf((char) b) >= 0) {
-                    put(b, place, 0);
-                    place++;
-                } else {
+            int end = 0;
+            for (int place = 0; place < length && place < tape.length; place++) {
+                if (place >= end) {
+                    end = putToken(tape, place, length);
+                }
+                if (end == NONE) {
                     put(BAD, place, 0);
                     return;
                 }
             }
             put(END, length, 0);
+        }
+
+        /** Puts the token that begins at a place, if it is no blank: where it ends; NONE if none begins there. */
+        int putToken(int[] tape, int place, int length) {
+            int b = tape[place];
+            if (b == ' ' || b == 10) {
+                return place + 1;
+            }
+            if (isLetter(b)) {
+                return putWord(tape, place, length);
+            }
+            if (isDigit(b)) {
+                return putNumber(tape, place, length);
+            }
+            if (SINGLE.indexOf((char) b) < 0) {
+                return NONE;
+            }
+            put(b, place, 0);
+            return place + 1;
         }
 
         void put(int kind, int place, int value) {
